@@ -88,7 +88,7 @@ public final class PendulumGym {
 
     public int lengthOf(int pendulum) throws IndexOutOfBoundsException {
         requirePendulum(pendulum);
-        return state.lengths[pendulum];
+        return state.lengthAt(pendulum);
     }
 
     public int classOf(int pendulum) throws IndexOutOfBoundsException {
@@ -98,28 +98,28 @@ public final class PendulumGym {
 
     public int amplitudeOf(int pendulum) throws IndexOutOfBoundsException {
         requirePendulum(pendulum);
-        return state.amplitudes[pendulum];
+        return state.amplitudeAt(pendulum);
     }
 
     public int startOf(int pendulum) throws IndexOutOfBoundsException, NoSuchElementException {
         requirePendulum(pendulum);
         requireSwinging(pendulum);
-        return state.starts[pendulum];
+        return state.startAt(pendulum);
     }
 
     public int periodOf(int pendulum) throws IndexOutOfBoundsException {
         requirePendulum(pendulum);
-        return state.periods[pendulum];
+        return state.periodAt(pendulum);
     }
 
     public int periodByEstimates(int pendulum) throws IndexOutOfBoundsException {
         requirePendulum(pendulum);
-        return Numbers.rootByEstimates(State.squareOfPeriod(state.lengths[pendulum]));
+        return Numbers.rootByEstimates(State.squareOfPeriod(state.lengthAt(pendulum)));
     }
 
     public int swingsOf(int pendulum) throws IndexOutOfBoundsException {
         requirePendulum(pendulum);
-        return state.swings[pendulum];
+        return state.swingsAt(pendulum);
     }
 
     public int clock() {
@@ -132,12 +132,12 @@ public final class PendulumGym {
 
     public int recordOf(int kind) throws IllegalArgumentException, NoSuchElementException {
         requireRecord(kind);
-        return state.records[kind];
+        return state.recordAt(kind);
     }
 
     public int holderOf(int kind) throws IllegalArgumentException, NoSuchElementException {
         requireRecord(kind);
-        return state.holders[kind];
+        return state.holderAt(kind);
     }
 
     public int pendulumAtRank(int rank) throws NoSuchElementException {
@@ -193,7 +193,7 @@ public final class PendulumGym {
     public int cycleOf(int one, int other) throws IndexOutOfBoundsException {
         requirePendulum(one);
         requirePendulum(other);
-        return Numbers.leastMultiple(state.periods[one], state.periods[other]);
+        return Numbers.leastMultiple(state.periodAt(one), state.periodAt(other));
     }
 
     // ---- relays and quotas
@@ -216,7 +216,7 @@ public final class PendulumGym {
 
     public int wishOf(int leg) throws IndexOutOfBoundsException {
         requireLeg(leg);
-        return state.wishes[leg];
+        return state.wishAt(leg);
     }
 
     public int leastRelay() throws IllegalStateException {
@@ -265,12 +265,12 @@ public final class PendulumGym {
         card.setLength(0);
         card.append(pendulum);
         card.append(':');
-        card.append(state.lengths[pendulum]);
+        card.append(state.lengthAt(pendulum));
         card.append("cm ");
         if (state.isSwinging(pendulum)) {
-            card.append(state.amplitudes[pendulum]);
+            card.append(state.amplitudeAt(pendulum));
             card.append('@');
-            card.append(state.starts[pendulum]);
+            card.append(state.startAt(pendulum));
         } else {
             card.append("rest");
         }
@@ -396,10 +396,10 @@ public final class PendulumGym {
     }
 
     private void requireRecord(int kind) {
-        if (kind < 0 || kind >= CLASSES) {
+        if (!State.isKind(kind)) {
             throw new IllegalArgumentException("there is no such class");
         }
-        if (!state.hasRecord(kind)) {
+        if (state.recordAt(kind) == 0) {
             throw new NoSuchElementException("no pendulum of the class has been pushed so far");
         }
     }
@@ -483,14 +483,14 @@ public final class PendulumGym {
 
     /** All that undo and restore bring back. Each change answers NONE, and changes nothing, if it is refused. */
     private static final class State {
-        final int[] lengths = new int[MAX_PENDULUMS];
-        final int[] periods = new int[MAX_PENDULUMS];
-        final int[] amplitudes = new int[MAX_PENDULUMS];
-        final int[] starts = new int[MAX_PENDULUMS];
-        final int[] swings = new int[MAX_PENDULUMS];
-        final int[] records = new int[CLASSES];
-        final int[] holders = new int[CLASSES];
-        final int[] wishes = new int[MAX_LEGS];
+        private final int[] lengths = new int[MAX_PENDULUMS];
+        private final int[] periods = new int[MAX_PENDULUMS];
+        private final int[] amplitudes = new int[MAX_PENDULUMS];
+        private final int[] starts = new int[MAX_PENDULUMS];
+        private final int[] swings = new int[MAX_PENDULUMS];
+        private final int[] records = new int[CLASSES];
+        private final int[] holders = new int[CLASSES];
+        private final int[] wishes = new int[MAX_LEGS];
         int pendulums = 0;
         int legs = 0;
         int now = 0;
@@ -521,6 +521,43 @@ public final class PendulumGym {
 
         boolean isSwinging(int pendulum) {
             return hasPendulum(pendulum) && amplitudes[pendulum] > 0;
+        }
+
+        int lengthAt(int pendulum) {
+            return hasPendulum(pendulum) ? lengths[pendulum] : 0;
+        }
+
+        int periodAt(int pendulum) {
+            return hasPendulum(pendulum) ? periods[pendulum] : 0;
+        }
+
+        int amplitudeAt(int pendulum) {
+            return hasPendulum(pendulum) ? amplitudes[pendulum] : 0;
+        }
+
+        int startAt(int pendulum) {
+            return hasPendulum(pendulum) ? starts[pendulum] : 0;
+        }
+
+        int swingsAt(int pendulum) {
+            return hasPendulum(pendulum) ? swings[pendulum] : 0;
+        }
+
+        int wishAt(int leg) {
+            return hasLeg(leg) ? wishes[leg] : 0;
+        }
+
+        // A push gives one degree at least, so that a record of 0 says that there is none yet.
+        int recordAt(int kind) {
+            return isKind(kind) ? records[kind] : 0;
+        }
+
+        int holderAt(int kind) {
+            return isKind(kind) && records[kind] > 0 ? holders[kind] : NONE;
+        }
+
+        static boolean isKind(int kind) {
+            return kind >= 0 && kind < CLASSES;
         }
 
         int refusalToHang(int length) {
@@ -566,15 +603,14 @@ public final class PendulumGym {
                 starts[pendulum] = now;
             }
             amplitudes[pendulum] += degrees;
-            noteRecord(pendulum);
+            noteRecord(kindOf(pendulum), pendulum, amplitudes[pendulum]);
             return amplitudes[pendulum];
         }
 
         // Only a greater amplitude takes the record over: the holder is the first one that reached it.
-        private void noteRecord(int pendulum) {
-            int kind = kindOf(pendulum);
-            if (amplitudes[pendulum] > records[kind]) {
-                records[kind] = amplitudes[pendulum];
+        private void noteRecord(int kind, int pendulum, int amplitude) {
+            if (isKind(kind) && amplitude > records[kind]) {
+                records[kind] = amplitude;
                 holders[kind] = pendulum;
             }
         }
@@ -673,21 +709,15 @@ public final class PendulumGym {
         }
 
         int kindOf(int pendulum) {
-            int length = lengths[pendulum];
+            int length = lengthAt(pendulum);
             if (length < MIDDLE_FROM) {
                 return SHORT;
             }
             return length < LONG_FROM ? MIDDLE : LONG;
         }
 
-        // A push gives one degree at least, so that a record of 0 says that there is none yet.
-        boolean hasRecord(int kind) {
-            return records[kind] > 0;
-        }
-
         boolean holdsRecord(int pendulum) {
-            int kind = kindOf(pendulum);
-            return hasRecord(kind) && holders[kind] == pendulum;
+            return hasPendulum(pendulum) && holderAt(kindOf(pendulum)) == pendulum;
         }
 
         int ranked(int rank) {
@@ -710,11 +740,11 @@ public final class PendulumGym {
         }
 
         private boolean isAhead(int one, int other) {
-            if (amplitudes[one] != amplitudes[other]) {
-                return amplitudes[one] > amplitudes[other];
+            if (amplitudeAt(one) != amplitudeAt(other)) {
+                return amplitudeAt(one) > amplitudeAt(other);
             }
-            if (swings[one] != swings[other]) {
-                return swings[one] > swings[other];
+            if (swingsAt(one) != swingsAt(other)) {
+                return swingsAt(one) > swingsAt(other);
             }
             return one < other;
         }
@@ -732,7 +762,7 @@ public final class PendulumGym {
         int amplitudeSum() {
             int sum = 0;
             for (int pendulum = 0; pendulum < pendulums; pendulum++) {
-                sum += amplitudes[pendulum];
+                sum += amplitudeAt(pendulum);
             }
             return sum;
         }
@@ -746,13 +776,13 @@ public final class PendulumGym {
         }
 
         int swingsInWeek(int pendulum) {
-            return hasPendulum(pendulum) ? Numbers.quotient(WEEK, periods[pendulum]) : 0;
+            return Numbers.quotient(WEEK, periodAt(pendulum));
         }
 
         /** The first tick after the present one in which the pendulum completes a swing if it still swings. */
         int nextSwing(int pendulum) {
-            int period = periods[pendulum];
-            return now + period - Numbers.remainder(now - starts[pendulum], period);
+            int period = periodAt(pendulum);
+            return now + period - Numbers.remainder(now - startAt(pendulum), period);
         }
     }
 
@@ -880,7 +910,7 @@ public final class PendulumGym {
         private final int[] swingsFrom = new int[MAX_AMPLITUDE + 1];
 
         int swingsOneByOne(State state, int pendulum) {
-            int amplitude = state.amplitudes[pendulum];
+            int amplitude = state.amplitudeAt(pendulum);
             int swings = 0;
             while (amplitude > 0 && swings < MAX_AMPLITUDE) {
                 amplitude = state.afterSwing(amplitude);
@@ -891,7 +921,7 @@ public final class PendulumGym {
 
         int swingsFromTable(State state, int pendulum) {
             fillTable(state);
-            return tableAt(state.amplitudes[pendulum]);
+            return tableAt(state.amplitudeAt(pendulum));
         }
 
         private void fillTable(State state) {
@@ -907,12 +937,12 @@ public final class PendulumGym {
 
         int lastTick(State state, int pendulum) {
             int further = swingsOneByOne(state, pendulum) - 1;
-            return state.nextSwing(pendulum) + further * state.periods[pendulum];
+            return state.nextSwing(pendulum) + further * state.periodAt(pendulum);
         }
 
         int laterAmplitude(State state, int pendulum, int ticks) {
-            int amplitude = state.amplitudes[pendulum];
-            int period = state.periods[pendulum];
+            int amplitude = state.amplitudeAt(pendulum);
+            int period = state.periodAt(pendulum);
             int first = state.nextSwing(pendulum) - state.now;
             if (period <= 0) {
                 return amplitude;
@@ -928,7 +958,7 @@ public final class PendulumGym {
     private static final class Meetings {
         // The ticks recur after the product of the periods, if not before.
         static int tickByTick(State state, int one, int other) {
-            int product = state.periods[one] * state.periods[other];
+            int product = state.periodAt(one) * state.periodAt(other);
             for (int ahead = 1; ahead <= product; ahead++) {
                 int tick = state.now + ahead;
                 if (swingsIn(state, one, tick) && swingsIn(state, other, tick)) {
@@ -939,16 +969,16 @@ public final class PendulumGym {
         }
 
         private static boolean swingsIn(State state, int pendulum, int tick) {
-            return Numbers.divides(state.periods[pendulum], tick - state.starts[pendulum]);
+            return Numbers.divides(state.periodAt(pendulum), tick - state.startAt(pendulum));
         }
 
         static int byDivisors(State state, int one, int other) {
             if (!everMeet(state, one, other)) {
                 return NONE;
             }
-            int period = state.periods[one];
-            int divisor = Numbers.greatestDivisor(period, state.periods[other]);
-            int modulus = Numbers.quotient(state.periods[other], divisor);
+            int period = state.periodAt(one);
+            int divisor = Numbers.greatestDivisor(period, state.periodAt(other));
+            int modulus = Numbers.quotient(state.periodAt(other), divisor);
             if (modulus <= 0) {
                 return NONE;
             }
@@ -959,8 +989,8 @@ public final class PendulumGym {
         }
 
         static boolean everMeet(State state, int one, int other) {
-            int divisor = Numbers.greatestDivisor(state.periods[one], state.periods[other]);
-            return Numbers.divides(divisor, state.starts[one] - state.starts[other]);
+            int divisor = Numbers.greatestDivisor(state.periodAt(one), state.periodAt(other));
+            return Numbers.divides(divisor, state.startAt(one) - state.startAt(other));
         }
 
         static int pairs(State state) {

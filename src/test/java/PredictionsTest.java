@@ -119,12 +119,23 @@ public final class PredictionsTest {
         gym.pass(18);
         Check.due(24, "meeting(0, 2) in a meeting", gym.meeting(0, 2), 60);
         Check.due(25, "meetingByDivisors(0, 2) in a meeting", gym.meetingByDivisors(0, 2), 60);
+        gym.pass(35);
+        Check.due(24, "meeting(0, 2) in the next tick", gym.meeting(0, 2), 60);
+        Check.due(25, "meetingByDivisors(0, 2) in the next tick", gym.meetingByDivisors(0, 2), 60);
+        PendulumGym far = Check.gymWith(99, 94);
+        far.pass(2);
+        far.push(0, 1);
+        far.push(1, 1);
+        // The periods 59 and 58 have no common divisor: a whole cycle has to pass.
+        Check.due(24, "meeting(0, 1) after a cycle", far.meeting(0, 1), 2 + 59 * 58);
+        Check.due(25, "meetingByDivisors(0, 1) after a cycle", far.meetingByDivisors(0, 1), 2 + 59 * 58);
     }
 
     private static void allPairsOfPeriods() {
         for (int one = 1; one <= 99; one += 2) {
             for (int other = 1; other <= 99; other += 3) {
                 PendulumGym gym = Check.gymWith(one, other);
+                gym.pass(1 + one % 7);
                 gym.push(0, 60);
                 gym.pass(1 + (one + other) % 5);
                 gym.push(1, 60);

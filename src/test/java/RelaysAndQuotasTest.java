@@ -15,6 +15,7 @@ public final class RelaysAndQuotasTest {
         runnersOfEquals();
         biggestRelay();
         fewest();
+        swingsInAWeek();
         exactSets();
         meanAmplitude();
         Check.finish("RelaysAndQuotasTest");
@@ -144,11 +145,29 @@ public final class RelaysAndQuotasTest {
         PendulumGym empty = new PendulumGym();
         Check.refused(35, "fewestFor(1) of none", MISSING, () -> empty.fewestFor(1));
         Check.refused(36, "fewestForBySets(1) of none", MISSING, () -> empty.fewestForBySets(1));
+        PendulumGym falling = Check.gymWith(1, 36, 16, 64);
+        for (int index = 0; index < swings.length; index++) {
+            int want = due[index];
+            Check.due(35, "fewestFor(" + swings[index] + "), the first the fastest", falling.fewestFor(swings[index]), want);
+            Check.due(36, "fewestForBySets, the first the fastest", falling.fewestForBySets(swings[index]), want);
+        }
         PendulumGym full = Check.gymWith(1, 1, 1, 1, 1, 1, 1, 1);
         Check.due(35, "fewestFor(224)", full.fewestFor(224), 8);
         Check.due(36, "fewestForBySets(224)", full.fewestForBySets(224), 8);
         full.push(0, 60);
         Check.due(35, "fewestFor(197) with a swinging one", full.fewestFor(197), 8);
+    }
+
+    private static void swingsInAWeek() {
+        for (int length = 1; length <= 99; length++) {
+            PendulumGym gym = Check.gymWith(length);
+            int swings = 168 / gym.periodOf(0);
+            Check.due(35, "fewestFor of length " + length, gym.fewestFor(swings), 1);
+            Check.refused(35, "fewestFor of length " + length, MISSING, () -> gym.fewestFor(swings + 1));
+            Check.due(36, "fewestForBySets of length " + length, gym.fewestForBySets(swings), 1);
+            Check.refused(36, "fewestForBySets of length " + length, MISSING, () -> gym.fewestForBySets(swings + 1));
+            Check.due(37, "exactSets of length " + length, gym.exactSets(swings), 1);
+        }
     }
 
     private static void exactSets() {
@@ -186,5 +205,7 @@ public final class RelaysAndQuotasTest {
         Check.due(38, "meanAmplitude() of three", gym.meanAmplitude(), 22.0 / 3.0);
         gym.catchPendulum(1);
         Check.due(38, "meanAmplitude() after a catch", gym.meanAmplitude(), 6.0);
+        gym.push(0, 60);
+        Check.due(38, "meanAmplitude() with the first", gym.meanAmplitude(), 24.0);
     }
 }
