@@ -120,11 +120,15 @@ public final class CardAndProgramsTest {
         Check.due(42, "clock()", gym.clock(), 3005);
     }
 
-    private static void failures() {
+    private static PendulumGym beforeFailures() {
         PendulumGym gym = Check.gymWith(1, 9);
         gym.push(0, 50);
         gym.addLeg(9);
-        String before = Check.stateOf(gym);
+        return gym;
+    }
+
+    private static void failures() {
+        String before = Check.stateOf(beforeFailures());
         String[] programs = {"hang 0", "hang 100", "push 2 1", "push 0 0", "push 0 61", "push 0 11", "catch 9",
             "catch 1", "friction 31", "leg 0", "leg 61", "cut 1", "tick 0", "tick 501", "tick 999"};
         for (String program : programs) {
@@ -133,6 +137,7 @@ public final class CardAndProgramsTest {
                 if (program.equals("catch 1")) {
                     text = text.replace("push 1 2", "push 0 2");
                 }
+                PendulumGym gym = beforeFailures();
                 Check.due(42, text, Check.run(gym, text), REFUSED);
                 Check.due(44, "failedCommand() of " + text, gym.failedCommand(), index);
                 Check.due(42, "the state after " + text, Check.stateOf(gym), before);
@@ -140,6 +145,7 @@ public final class CardAndProgramsTest {
                 Check.refused(42, "execute() of a", ARGUMENT, gym::execute);
             }
         }
+        PendulumGym gym = beforeFailures();
         Check.due(42, "commands behind the failed one", Check.run(gym, "tick 5;hang 0;tick 5"), REFUSED);
         Check.due(44, "failedCommand()", gym.failedCommand(), 1);
         Check.due(42, "the state", Check.stateOf(gym), before);
@@ -152,7 +158,6 @@ public final class CardAndProgramsTest {
     }
 
     private static void malformed() {
-        PendulumGym gym = new PendulumGym();
         Object[][] cases = {
             {"", 0}, {" ", 0}, {";", 0}, {"x", 0}, {"H", 0}, {"7", 0}, {"ang 5", 0},
             {"h", 1}, {"hang", 4}, {"hang ", 5}, {"hang  5", 5}, {"hang x", 5}, {"hang -1", 5}, {"hang;", 4},
@@ -167,12 +172,14 @@ public final class CardAndProgramsTest {
             {"tick 1/", 6}, {"tick 1:", 6}, {"tick /", 5}, {"tick :", 5}};
         for (Object[] row : cases) {
             String text = (String) row[0];
+            PendulumGym gym = new PendulumGym();
             Check.due(42, "'" + text + "'", Check.run(gym, text), "throws IllegalArgumentException");
             Check.due(43, "errorPosition() of '" + text + "'", gym.errorPosition(), row[1]);
             Check.due(42, "the clock after '" + text + "'", gym.clock(), 0);
             Check.due(42, "no pendulum after '" + text + "'", gym.pendulumCount(), 0);
+            Check.refused(44, "failedCommand() after '" + text + "'", MISSING, gym::failedCommand);
         }
-        Check.refused(44, "failedCommand()", MISSING, gym::failedCommand);
+        PendulumGym gym = new PendulumGym();
         // A malformed program counts as malformed even if an earlier command of it would have failed.
         Check.due(42, "malformed before failed", Check.run(gym, "hang 0;x"), "throws IllegalArgumentException");
         Check.due(43, "errorPosition()", gym.errorPosition(), 7);

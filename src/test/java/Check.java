@@ -34,6 +34,11 @@ final class Check {
         }
     }
 
+    /** How many answers were looked at so far. */
+    static int looked() {
+        return looked;
+    }
+
     static void finish(String test) {
         System.out.println(test + ": " + looked + " looked at, " + wrong + " wrong");
         if (wrong != 0 || looked == 0) {
@@ -86,7 +91,9 @@ final class Check {
     static String stateOf(PendulumGym gym) {
         StringBuilder text = new StringBuilder();
         text.append("clock ").append(gym.clock()).append(" friction ").append(gym.friction());
-        for (int p = 0; p < gym.pendulumCount(); p++) {
+        int pendulums = gym.pendulumCount();
+        int legs = gym.legCount();
+        for (int p = 0; p < pendulums; p++) {
             int pendulum = p;
             text.append(" | ").append(gym.lengthOf(p)).append(' ').append(gym.periodOf(p)).append(' ')
                 .append(gym.amplitudeOf(p)).append(' ').append(gym.swingsOf(p)).append(' ')
@@ -97,7 +104,7 @@ final class Check {
             text.append(" | ").append(outcome(() -> gym.recordOf(kind))).append(' ')
                 .append(outcome(() -> gym.holderOf(kind)));
         }
-        for (int leg = 0; leg < gym.legCount(); leg++) {
+        for (int leg = 0; leg < legs; leg++) {
             text.append(" | leg ").append(gym.wishOf(leg));
         }
         return text.toString();

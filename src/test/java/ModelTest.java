@@ -73,7 +73,9 @@ public final class ModelTest {
             call("type", text.charAt(index));
         }
         call("execute");
-        call(random.nextBoolean() ? "errorPosition" : "failedCommand");
+        if (calls < CALLS) {
+            call(random.nextBoolean() ? "errorPosition" : "failedCommand");
+        }
     }
 
     private String command() {

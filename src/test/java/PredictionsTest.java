@@ -151,8 +151,11 @@ public final class PredictionsTest {
     }
 
     private static String meetingByTrying(PendulumGym gym) {
-        for (int tick = gym.clock() + 1; tick < 10_000; tick++) {
-            if ((tick - gym.startOf(0)) % gym.periodOf(0) == 0 && (tick - gym.startOf(1)) % gym.periodOf(1) == 0) {
+        int clock = gym.clock();
+        int[] starts = {gym.startOf(0), gym.startOf(1)};
+        int[] periods = {gym.periodOf(0), gym.periodOf(1)};
+        for (int tick = clock + 1; tick < 10_000; tick++) {
+            if ((tick - starts[0]) % periods[0] == 0 && (tick - starts[1]) % periods[1] == 0) {
                 return String.valueOf(tick);
             }
         }

@@ -8,6 +8,7 @@ public final class UndoAndSnapshotsTest {
 
     public static void main(String[] args) {
         undoEveryModification();
+        undoAProgram();
         lastEight();
         undoAndGoOn();
         questionsAreNoModifications();
@@ -29,19 +30,27 @@ public final class UndoAndSnapshotsTest {
             () -> gym.setFriction(17), () -> gym.addLeg(8), () -> gym.removeLeg(1), () -> gym.pass(100),
             () -> gym.catchPendulum(1));
         for (Check.Call call : calls) {
-            before.add(Check.stateOf(gym));
+            String state = Check.stateOf(gym);
+            Check.due(45, "the modification before modified", before.contains(state), false);
+            before.add(state);
             call.answer();
-            Check.due(45, "the modification modified", Check.stateOf(gym).equals(before.get(before.size() - 1)), false);
         }
+        Check.due(45, "the last modification modified", before.contains(Check.stateOf(gym)), false);
         for (int left = calls.size() - 1; left >= 0; left--) {
             Check.due(45, "undo()", gym.undo(), left);
             Check.due(45, "the state with " + left + " left", Check.stateOf(gym), before.get(left));
         }
         Check.refused(45, "undo() of nothing", STATE, gym::undo);
-        Check.due(45, "the state after a refusal", Check.stateOf(gym), before.get(0));
+    }
+
+    private static void undoAProgram() {
+        PendulumGym gym = Check.gymWith(1, 40);
+        gym.push(0, 20);
+        gym.addLeg(7);
+        String before = Check.stateOf(gym);
         Check.run(gym, "tick 60;leg 9;cut 0;hang 3;push 2 60");
-        Check.due(45, "undo() of a program", gym.undo(), 0);
-        Check.due(45, "the state before the program", Check.stateOf(gym), before.get(0));
+        Check.due(45, "undo() of a program", gym.undo(), 4);
+        Check.due(45, "the state before the program", Check.stateOf(gym), before);
     }
 
     private static void lastEight() {
